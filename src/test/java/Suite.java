@@ -5,14 +5,69 @@ import java.util.Arrays;
 import java.util.Comparator;
 import java.util.Objects;
 
-/** Runs the tests of a class (its static methods whose names begin with "promise") and counts them. */
-final class Suite {
+/**
+ * What the test classes have in common: the constants as the document tells them, and the run of a class, which are
+ * its static methods whose names begin with "promise".
+ */
+class Suite {
+    static final int NONE = -1;
+    static final int DEPLOY = 0, SET = 1, POD = 2, JOB = 3, NODE = 4, ROUTE = 5;
+    static final int WANTED = 0, TEMPLATE = 1, SURGE = 2, SLACK = 3, PAUSED = 4, MOST = 5, LOAD = 6, ROOM = 7, ZONE = 8, BARRED = 9;
+    static final int AT_ONCE = 10;
+    static final int STAYING = 0, FOREGROUND = 1, BACKGROUND = 2, ORPHAN = 3, GONE = 4;
+    static final int WAITING = 0, RUNNING = 1, DONE = 2, FAILED = 3;
+    static final int DEPLOYER = 0, REPLICATOR = 1, JOBBER = 2, SCHEDULER = 3, RUNNER = 4, COLLECTOR = 5, ROUTER = 6, SCALER = 7;
+    static final int IDLE = 0, LEFT = 1, PUT_OFF = 2, BROKEN = 3;
+
     static final Class<IllegalArgumentException> ARGUMENT = IllegalArgumentException.class;
     static final Class<IllegalStateException> STATE = IllegalStateException.class;
     static final Class<IndexOutOfBoundsException> INDEX = IndexOutOfBoundsException.class;
 
-    private Suite() {
+    // ---- short ways to what many tests need
+
+    /** Applies a field by the manager 0, forced. */
+    static void put(ReconcilerHall hall, int object, int field, int value) {
+        hall.apply(0, object, field, value, NONE, true);
     }
+
+    /** An object of the manager 0 with some fields: one number for the field, the next one for its value. */
+    static int make(ReconcilerHall hall, int kind, int... fields) {
+        int object = hall.make(0, kind);
+        for (int at = 0; at + 1 < fields.length; at += 2) {
+            put(hall, object, fields[at], fields[at + 1]);
+        }
+        return object;
+    }
+
+    /** Lets some controllers see all events and work until their queues are at an end. */
+    static void let(ReconcilerHall hall, int... controllers) {
+        for (int controller : controllers) {
+            hall.see(controller, 400);
+            for (int times = 0; times < 100 && hall.work(controller) == LEFT; times++) {
+                hall.see(controller, 400);
+            }
+        }
+    }
+
+    /** A POD that is RUNNING on a NODE. */
+    static int runningPod(ReconcilerHall hall, int template) {
+        int pod = make(hall, POD, TEMPLATE, template);
+        let(hall, SCHEDULER, RUNNER);
+        due(RUNNING, hall.phaseOf(pod));
+        return pod;
+    }
+
+    /** Brings the log to a version by holding an object and letting it go, and tells whether it is held then. */
+    static boolean fillLog(ReconcilerHall hall, int object, int version) {
+        boolean isHeld = false;
+        while (hall.version() < version) {
+            isHeld = !isHeld;
+            hall.hold(object, isHeld);
+        }
+        return isHeld;
+    }
+
+    // ---- the run of a class
 
     static void run(Class<?> tests) {
         int passed = 0;
