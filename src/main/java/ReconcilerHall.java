@@ -662,7 +662,7 @@ public final class ReconcilerHall {
         private int livingPods() {
             int count = 0;
             for (int object = 0; object < known; object++) {
-                count += read(object, KIND) == POD && !isGone(object) ? 1 : 0;
+                count += read(object, KIND) == POD && read(object, GOING) != GONE ? 1 : 0;
             }
             return count;
         }
@@ -723,7 +723,7 @@ public final class ReconcilerHall {
             if (draft[GOING] == GONE) {
                 draft[OWNER] = NONE;
             }
-            if (isDraftAsBefore(object)) {
+            if (isDraftAs(latestOf(object))) {
                 return true;
             }
             if (seenUpTo >= MOST_EVENTS) {
@@ -734,10 +734,9 @@ public final class ReconcilerHall {
             return true;
         }
 
-        private boolean isDraftAsBefore(int object) {
-            int row = latestOf(object) * SLOTS;
+        private boolean isDraftAs(int version) {
             for (int slot = 0; slot < SLOTS; slot++) {
-                if (draft[slot] != log[row + slot]) {
+                if (draft[slot] != log[version * SLOTS + slot]) {
                     return false;
                 }
             }

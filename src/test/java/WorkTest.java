@@ -675,6 +675,43 @@ public final class WorkTest extends Suite {
         }
     }
 
+    /** The POD with the number 0 is one as any other. */
+    static void promise13_theLowestPodCounts() {
+        ReconcilerHall hall = new ReconcilerHall();
+        hall.make(0, POD);
+        make(hall, NODE, ROOM, 4);
+        round(hall, SCHEDULER, RUNNER);
+        due(RUNNING, hall.phaseOf(0));
+        int node = make(hall, NODE, ROOM, 1, ZONE, 1);
+        int pod = hall.make(0, POD);
+        round(hall, SCHEDULER);
+        due(node, hall.placeOf(pod));
+        int second = make(hall, POD, TEMPLATE, 1);
+        round(hall, SCHEDULER);
+        due(1, hall.placeOf(second));
+        put(hall, 1, ROOM, 2);
+        round(hall, RUNNER);
+        due(FAILED, hall.phaseOf(second));
+        put(hall, node, BARRED, 1);
+        round(hall, RUNNER);
+        make(hall, POD, TEMPLATE, 4);
+        round(hall, SCHEDULER);
+        due(BACKGROUND, hall.goingOf(0));
+        hall.finish(0, true);
+        round(hall, RUNNER);
+        due(GONE, hall.goingOf(0));
+    }
+
+    static void promise13_runnerLooksAfterTheLowestPod() {
+        ReconcilerHall hall = new ReconcilerHall();
+        hall.make(0, POD);
+        hall.make(0, NODE);
+        round(hall, SCHEDULER, RUNNER);
+        put(hall, 1, BARRED, 1);
+        round(hall, RUNNER);
+        due(FAILED, hall.phaseOf(0));
+    }
+
     // ---- COLLECTOR
 
     /** A SET 0 that owns the PODs 1 to 3. */
@@ -817,6 +854,19 @@ public final class WorkTest extends Suite {
         round(hall, ROUTER);
         due(false, hall.isBehind(route, other));
         due(0, hall.managerOf(route, TEMPLATE));
+    }
+
+    static void promise13_routerKeepsPodsOfGreatNumbers() {
+        ReconcilerHall hall = new ReconcilerHall();
+        int route = hall.make(0, ROUTE);
+        hall.make(0, NODE);
+        while (hall.objects() < 40) {
+            hall.make(0, SET);
+        }
+        int pod = runningPod(hall, 0);
+        round(hall, ROUTER);
+        due(true, hall.isBehind(route, pod));
+        due(false, hall.isBehind(hall.make(0, ROUTE), pod));
     }
 
     static void promise13_routerLeavesGoingRoutes() {
