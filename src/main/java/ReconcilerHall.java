@@ -542,7 +542,7 @@ public final class ReconcilerHall {
                 return;
             }
             latest[object] = version;
-            known = Math.max(known, object + 1);
+            known = object >= known ? object + 1 : known;
             seenUpTo = version;
         }
 

@@ -72,7 +72,7 @@ public final class ModelTest {
             for (int call = 0; call < CALLS && wrong == 0; call++) {
                 Method method = choose();
                 if (call < begin || call >= begin + filling || !fill(call)) {
-                    compare(method, arguments(method));
+                    compare(method, spoilt(arguments(method)));
                 }
             }
             readAll();
@@ -156,6 +156,15 @@ public final class ModelTest {
                 case "isBehind": return list(object, random.nextInt(Math.max(1, objects)));
                 default: return plain(method, object, field);
             }
+        }
+
+        /** At times one of the numbers is the lowest or the greatest int, or next to one of these. */
+        Object[] spoilt(Object[] arguments) {
+            int at = random.nextInt(60);
+            if (at < arguments.length && arguments[at] instanceof Integer) {
+                arguments[at] = new int[] {Integer.MIN_VALUE, Integer.MIN_VALUE + 1, Integer.MAX_VALUE - 1, Integer.MAX_VALUE}[random.nextInt(4)];
+            }
+            return arguments;
         }
 
         Object[] plain(Method method, int object, int field) {
