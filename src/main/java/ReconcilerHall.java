@@ -996,10 +996,8 @@ public final class ReconcilerHall {
             return isUpToDate(object) && store.applyField(BY_CONTROLLERS, object, WANTED, wanted);
         }
 
+        /** Writes a slot that the controller has seen to be another one. */
         final boolean set(int object, int slot, int value) {
-            if (read(object, slot) == value) {
-                return true;
-            }
             return isUpToDate(object) && store.change(object, slot, value);
         }
 

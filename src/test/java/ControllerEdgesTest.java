@@ -108,6 +108,17 @@ public final class ControllerEdgesTest extends Twins {
         }
     }
 
+    /** Though it does not matter how many they are, there have to be 1 to 400. */
+    static void promise12_noOtherNumbersIfItLists() {
+        ReconcilerHall hall = new ReconcilerHall();
+        hall.make(0, SET);
+        hall.compact(1);
+        for (int many : new int[] {LOWEST, -1, 0, 401, GREATEST}) {
+            refused(hall, ARGUMENT, () -> hall.see(REPLICATOR, many));
+        }
+        due(1, hall.see(REPLICATOR, 400));
+    }
+
     /** It lists the objects that are not GONE then, though it has not seen when they became so. */
     static void promise12_listsWhatIsNotGone() {
         ReconcilerHall hall = new ReconcilerHall();

@@ -56,20 +56,29 @@ public final class ModelTest {
         final Method[] methods;
         final int style;
         final StringBuilder told = new StringBuilder();
+        int calls;
 
         Run(int seed) {
             this.seed = seed;
             random = new Random(seed);
-            style = random.nextInt(5);
+            style = random.nextInt(10);
             methods = Arrays.stream(ReconcilerHall.class.getDeclaredMethods())
                 .filter(method -> java.lang.reflect.Modifier.isPublic(method.getModifiers()))
                 .sorted(java.util.Comparator.comparing(Method::getName)).toArray(Method[]::new);
         }
 
+        /** Runs that begin with objects of all kinds at work, so that controllers have much to be wrong about. */
+        boolean isRich() {
+            return style > 4;
+        }
+
         void go() {
+            if (isRich()) {
+                begin();
+            }
             int filling = style == 3 ? 250 + random.nextInt(150) : 0;
             int begin = random.nextInt(120);
-            for (int call = 0; call < CALLS && wrong == 0; call++) {
+            for (int call = 0; calls < CALLS && wrong == 0; call++) {
                 Method method = choose();
                 if (call < begin || call >= begin + filling || !fill(call)) {
                     compare(method, spoilt(arguments(method)));
@@ -78,6 +87,26 @@ public final class ModelTest {
             readAll();
             ANSWERS.add("objects at last " + hall.objects());
             ANSWERS.add("events at last " + hall.version());
+        }
+
+        void begin() {
+            for (int[] each : new int[][] {{4, 2, 3}, {0, 1, 2}, {3, 1, 2}, {5, 1, 1}, {2, 1, 3}}) {
+                for (int left = each[1] + random.nextInt(each[2]); left > 0; left--) {
+                    compare(method("make"), list(0, each[0]));
+                    set(hall.objects() - 1, each[0]);
+                }
+            }
+            compare(method("turn"), list(1 + random.nextInt(6)));
+        }
+
+        /** Gives some fields of a new object values that keep it busy. */
+        void set(int object, int kind) {
+            for (int field = 0; field < 11; field++) {
+                boolean isCalm = field == 4 || field == 5 || field == 9 || random.nextInt(3) == 0;
+                if (Suite.has(kind, field) && !isCalm) {
+                    compare(method("apply"), list(0, object, field, field == 1 ? random.nextInt(3) * 3 : valueOf(field), -1, true));
+                }
+            }
         }
 
         /** Brings the log nearer to its end by one event, if there is an object for that. */
@@ -115,6 +144,9 @@ public final class ModelTest {
             }
             if (style == 2 && name.equals("turn")) {
                 return 0;
+            }
+            if (isRich() && (name.equals("turn") || name.equals("compact") || name.equals("make"))) {
+                return weight / 8 + 1;
             }
             if (style == 4 && name.equals("tick")) {
                 return 6 * weight;
@@ -235,6 +267,7 @@ public final class ModelTest {
             String call = method.getName() + Arrays.toString(arguments);
             told.append(call).append(" = ").append(got).append('\n');
             ANSWERS.add(method.getName() + " " + got);
+            calls++;
             if (!want.equals(got)) {
                 wrong++;
                 System.out.println("seed " + seed + ": " + call + " answered " + got + ", the model " + want + "; ahead of it:\n" + told);

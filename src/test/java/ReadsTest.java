@@ -198,6 +198,23 @@ public final class ReadsTest extends Suite {
         refused(hall, INDEX, () -> hall.phaseOf(-1));
     }
 
+    /** What is GONE loses its owner alone; its phase is as it was at last. */
+    static void promise37_phasesOfGonePods() {
+        ReconcilerHall hall = new ReconcilerHall();
+        make(hall, NODE, ROOM, 9);
+        for (int phase = RUNNING; phase <= FAILED; phase++) {
+            int pod = runningPod(hall, 0);
+            if (phase != RUNNING) {
+                hall.finish(pod, phase == DONE);
+            }
+            hall.delete(pod, BACKGROUND);
+            let(hall, RUNNER);
+            due(GONE, hall.goingOf(pod));
+            due(phase, hall.phaseOf(pod));
+            due(NONE, hall.placeOf(pod));
+        }
+    }
+
     static void promise38_placeOf() {
         ReconcilerHall hall = hallOfAllKinds();
         due(NONE, hall.placeOf(2));
@@ -241,6 +258,24 @@ public final class ReadsTest extends Suite {
         refused(hall, INDEX, () -> hall.isBehind(-1, 2));
     }
 
+    /** A POD is behind a ROUTE until the ROUTER has written otherwise, and a ROUTE that is GONE is written no more. */
+    static void promise40_goneOnesAsTheyWereAtLast() {
+        ReconcilerHall hall = hallOfAllKinds();
+        let(hall, SCHEDULER, RUNNER, ROUTER);
+        hall.delete(2, BACKGROUND);
+        let(hall, RUNNER);
+        due(GONE, hall.goingOf(2));
+        due(true, hall.isBehind(5, 2));
+        ReconcilerHall other = hallOfAllKinds();
+        let(other, SCHEDULER, RUNNER, ROUTER);
+        other.delete(5, BACKGROUND);
+        other.finish(2, true);
+        let(other, ROUTER);
+        due(true, other.isBehind(5, 2));
+        let(hall, ROUTER);
+        due(false, hall.isBehind(5, 2));
+    }
+
     /** PODs of great numbers are behind a ROUTE as well, and no others for that. */
     static void promise40_allNumbersOfPods() {
         ReconcilerHall hall = new ReconcilerHall();
@@ -281,6 +316,23 @@ public final class ReadsTest extends Suite {
         due(1, hall.running(deploy, true));
         hall.delete(2, FOREGROUND);
         due(1, hall.running(deploy, false));
+    }
+
+    /** What has become of the DEPLOY does not matter: its SETs are owned by it as long as they have it as their owner. */
+    static void promise41_ofADeployThatIsGone() {
+        for (int manner = FOREGROUND; manner <= ORPHAN; manner++) {
+            ReconcilerHall hall = new ReconcilerHall();
+            make(hall, NODE, ROOM, 9);
+            int deploy = make(hall, DEPLOY, WANTED, 2);
+            hall.turn(6);
+            hall.delete(deploy, manner);
+            due(manner == BACKGROUND ? GONE : manner, hall.goingOf(deploy));
+            due(2, hall.running(deploy, false));
+            due(2, hall.running(deploy, true));
+            let(hall, COLLECTOR);
+            due(0, hall.running(deploy, false));
+            due(0, hall.running(deploy, true));
+        }
     }
 
     static void promise41_countsTheLowestSetWithItsTemplate() {
